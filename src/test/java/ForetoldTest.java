@@ -93,6 +93,7 @@ public final class ForetoldTest {
         Due.tell(y, "doubter 1 2;hears 7 0 1;plain 7 20");
         Due.is("the longer of two wings", y.ends(0), 20);
         Due.is("a doubter that is struck, round to himself", y.ends(1), 24);
+        Due.is("the last one is 0", Due.told("hears 0 1 1;plain 0 9;hears 2 1 1").ends(1), 9);
     }
 
     private static void round() {
@@ -217,6 +218,12 @@ public final class ForetoldTest {
         Due.tell(none, "hears 3 1 1;hears 1 2 1;hears 2 1 1");
         Due.is("but another one hears it", none.over(2, 0), 1);
         Due.is("two then", none.over(2, 1), 2);
+        HundredGongs zero = Due.told("deaf 0 1;hears 0 3 1;hears 1 0 1");
+        Due.is("0 is deaf", zero.over(3, 0), 0);
+        Due.is("two then", zero.over(3, 1), 2);
+        Due.tell(zero, "plain 0 1;deaf 3 1;hears 0 3 1;hears 3 2 1;alone 1");
+        Due.is("0 hears over", zero.over(2, 0), 3);
+        Due.is("of two gongs, both deaf", Due.told("cloister 2;deaf 0 1;deaf 1 1;hears 0 1 1;hears 1 0 1").over(0, 0), NONE);
     }
 
     private static void overFogAndSpans() {

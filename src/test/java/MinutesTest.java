@@ -1,6 +1,6 @@
 /** Promises 9 to 13: strikes by hand, minutes, weather that turns, a morning kept. */
 public final class MinutesTest {
-    private static final int NONE = Due.NONE, UNKNOWN = Due.UNKNOWN, OUTSIDE = Due.OUTSIDE, NOT = Due.NOT;
+    private static final int NONE = Due.NONE, UNKNOWN = Due.UNKNOWN, OUTSIDE = Due.OUTSIDE, NOT = Due.NOT, FULL = Due.FULL;
 
     public static void main(String[] args) {
         strike();
@@ -10,7 +10,9 @@ public final class MinutesTest {
         farMinutes();
         turn();
         keepAndBack();
+        keepADoubter();
         keepAndBackRefused();
+        aboveTheLastMinute();
         Due.end("MinutesTest");
     }
 
@@ -147,6 +149,33 @@ public final class MinutesTest {
         Due.is("kept anew", x.keep(0), 4);
         x.go(1);
         Due.is("that is it now", x.back(0), 4);
+    }
+
+    private static void keepADoubter() {
+        HundredGongs x = Due.told("hears 1 0 1;doubter 1 2");
+        x.strike(0);
+        x.keep(0);
+        Due.is("the second", x.strike(0), 2);
+        x.keep(1);
+        x.back(0);
+        Due.is("the first was heard", x.monk(1, 3), 1);
+        Due.is("the second once more", x.strike(0), 2);
+        x.back(1);
+        Due.is("the third", x.strike(0), 0);
+    }
+
+    /** No 512 calls come so far, so the document leaves free what is looked at here; the class holds to it all the same. */
+    private static void aboveTheLastMinute() {
+        HundredGongs x = new HundredGongs();
+        for (int i = 0; i < 1010; i++) {
+            x.go(99);
+        }
+        Due.is("minute", x.count(2), 99990);
+        Due.refused(x, "one above", () -> x.go(10), FULL);
+        Due.refused(x, "OUTSIDE is ahead of FULL", () -> x.go(100), OUTSIDE);
+        Due.is("the last", x.go(9), 0);
+        Due.is("minute", x.count(2), 99999);
+        Due.refused(x, "no more", () -> x.go(1), FULL);
     }
 
     private static void keepAndBackRefused() {

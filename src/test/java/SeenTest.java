@@ -40,6 +40,9 @@ public final class SeenTest {
         Due.is("nothing then", x.count(5), 0);
         Due.is("all are so again", x.asleep(0, 0), 14);
         Due.is("the first again", x.seen(0, 1), 1);
+        x.forget();
+        Due.is("from 1", x.asleep(1, 0), 13);
+        Due.is("from 3", x.asleep(3, 0), 7);
     }
 
     private static void asleepInAChain() {

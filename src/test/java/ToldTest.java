@@ -107,6 +107,11 @@ public final class ToldTest {
         Due.faultAt("Fog", 0);
         Due.faultAt("fOG", 0);
         Due.faultAt("fo", 0);
+        Due.faultAt("xog", 0);
+        Due.faultAt("fogz", 0);
+        Due.faultAt("foga", 0);
+        Due.faultAt("fog{", 3);
+        Due.faultAt("fog`", 3);
         Due.faultAt("foggy", 0);
         Due.faultAt("frosty", 0);
         Due.faultAt("4", 0);
@@ -188,6 +193,12 @@ public final class ToldTest {
         x.erase();
         Due.write(x, "alone 10");
         Due.is("no tenth", x.fault(), 6);
+        HundredGongs y = new HundredGongs();
+        Due.write(y, "cloister 2");
+        Due.is("fault of two gongs", y.fault(), NONE);
+        y.erase();
+        Due.write(y, "alone 3");
+        Due.is("an erased line is not ahead", y.fault(), NONE);
     }
 
     private static void linesAreDone() {
@@ -217,6 +228,7 @@ public final class ToldTest {
         Due.is("a line behind it holds", x.gong(2, 0), 0);
         Due.tell(x, "cloister 10");
         Due.is("none is left over", x.gong(2, 0), NONE);
+        Due.is("nor its span", x.gong(2, 1), 0);
     }
 
     private static void cloisterSetsAllBack() {
