@@ -18,7 +18,7 @@ public final class HundredGongs {
     private static final int MOST_TIMES = 64;
     private static final int TENTHS = 10;
     /** The kind right over each: MONK 0, PLAIN 1, DEAF 2, SLEEPY 3, DOUBTER 4. */
-    private static final int[] KIND_OVER = {NONE, 0, 0, 1, 1};
+    private static final int[] KIND_OVER = {-1, 0, 0, 1, 1};
 
     private final Text text;
     private final Cloister house;
@@ -398,7 +398,7 @@ public final class HundredGongs {
         }
 
         boolean canHear(int gong, int weather) {
-            return has(gong) && has(hears[gong]) && kind[gong] != DEAF
+            return gong >= 0 && gong < gongs && hears[gong] != NONE && kind[gong] != DEAF
                     && span[gong] <= (weather == FOG ? MOST_SPAN_IN_FOG : MOST_SPAN);
         }
 
@@ -554,12 +554,12 @@ public final class HundredGongs {
                 start++;
             }
             end = start;
-            if (isLetter(start)) {
-                while (end < length && isLetter(end)) {
+            if (isLetter(byteAt(start))) {
+                while (end < length && isLetter(byteAt(end))) {
                     end++;
                 }
-            } else if (isDigit(start)) {
-                while (end < length && isDigit(end)) {
+            } else if (isDigit(byteAt(start))) {
+                while (end < length && isDigit(byteAt(end))) {
                     end++;
                 }
             } else if (end < length) {
@@ -569,7 +569,7 @@ public final class HundredGongs {
 
         private boolean nextNumber(int least, int most) {
             nextToken();
-            if (!isDigit(start) || end - start > MOST_DIGITS) {
+            if (!isDigit(byteAt(start)) || end - start > MOST_DIGITS) {
                 return false;
             }
             number = 0;
@@ -626,13 +626,11 @@ public final class HundredGongs {
             }
         }
 
-        private boolean isLetter(int place) {
-            int value = byteAt(place);
+        private static boolean isLetter(int value) {
             return value >= 'a' && value <= 'z';
         }
 
-        private boolean isDigit(int place) {
-            int value = byteAt(place);
+        private static boolean isDigit(int value) {
             return value >= '0' && value <= '9';
         }
 
