@@ -25,9 +25,10 @@ final class Due {
 
     static void write(HundredGongs x, String text) {
         byte[] bytes = text.getBytes(StandardCharsets.ISO_8859_1);
+        int had = x.count(6);
         for (int at = 0; at < bytes.length; at += 8) {
             int n = Math.min(8, bytes.length - at);
-            is("write of " + text, x.write(packed(bytes, at, n), n), at + n);
+            is("write of " + text, x.write(packed(bytes, at, n), n), had + at + n);
         }
     }
 
