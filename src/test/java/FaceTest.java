@@ -36,6 +36,8 @@ public final class FaceTest {
                 Due.isTrue("public: " + method, Modifier.isPublic(method.getModifiers()) && !Modifier.isStatic(method.getModifiers()));
                 Due.isTrue("int: " + method, method.getReturnType() == int.class);
                 found.add(signature(method));
+            } else {
+                Due.isTrue("a name of its own: " + method, METHODS.stream().noneMatch(name -> name.startsWith(method.getName() + "(")));
             }
         }
         Due.is("methods", found.size(), 25);

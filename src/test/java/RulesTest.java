@@ -4,6 +4,10 @@ import java.lang.management.ManagementFactory;
 import java.nio.file.Files;
 import java.nio.file.Path;
 import java.util.List;
+import java.util.Map;
+import java.util.Set;
+import java.util.TreeMap;
+import java.util.TreeSet;
 import java.util.regex.Matcher;
 import java.util.regex.Pattern;
 
@@ -26,6 +30,7 @@ public final class RulesTest {
         }
         Due.isTrue("signs 1 to 127", source.chars().allMatch(sign -> sign > 0 && sign < 128));
         shortMethods(code);
+        shallowCalls(code);
         callsMakeNothing();
         Due.end("RulesTest");
     }
@@ -47,6 +52,41 @@ public final class RulesTest {
             Due.isTrue("seven parameters at most: " + lines[i], head.group(2).split(",").length <= 7);
         }
         Due.isTrue("methods were found", methods > 50);
+    }
+
+    /** Rules 8 and 11. Methods are told apart by their names alone, so no depth is found too small. */
+    private static void shallowCalls(String code) {
+        Map<String, Set<String>> calls = new TreeMap<>();
+        String[] lines = code.split("\n");
+        String inside = "";
+        for (String line : lines) {
+            Matcher head = Pattern.compile("^ +(?!else\\b|return\\b)(?:[\\w\\[\\]]+ )*(\\w+)\\([^)]*\\) \\{$").matcher(line);
+            if (head.matches() && !line.matches(" +(if|for|while|switch)\\b.*")) {
+                inside = head.group(1);
+                calls.putIfAbsent(inside, new TreeSet<>());
+                continue;
+            }
+            Matcher call = Pattern.compile("\\b(\\w+)\\(").matcher(line);
+            while (call.find() && !inside.isEmpty()) {
+                calls.get(inside).add(call.group(1));
+            }
+        }
+        Due.isTrue("methods were found: " + calls.size(), calls.size() > 50);
+        for (String method : calls.keySet()) {
+            int depth = depth(calls, method, 1);
+            Due.isTrue("eight deep at most: " + method + " goes " + depth, depth <= 8);
+        }
+    }
+
+    private static int depth(Map<String, Set<String>> calls, String method, int level) {
+        int deepest = level;
+        if (level > 8 || !calls.containsKey(method)) {
+            return calls.containsKey(method) ? level : level - 1;
+        }
+        for (String called : calls.get(method)) {
+            deepest = Math.max(deepest, depth(calls, called, level + 1));
+        }
+        return deepest;
     }
 
     private static void callsMakeNothing() {
